@@ -294,7 +294,6 @@ public final class Songnations {
     year++;
     phase = ENTRIES;
     winnerBefore = winner;
-    winner = NONE;
     host = NONE;
     songs.clear();
     stage.clear();
@@ -637,8 +636,10 @@ public final class Songnations {
     final int[] wins = new int[LANDS];
     final int[] hostings = new int[LANDS];
 
-    // Behind a test that there are fewer than LANDS.
     int add(int itsPot, int itsBeds) {
+      if (count >= LANDS) {
+        return NONE;
+      }
       pot[count] = itsPot;
       beds[count] = itsBeds;
       money[count] = 100;
@@ -659,7 +660,6 @@ public final class Songnations {
 
     void add(int song, int itsSeconds, int itsProps, int itsHalf) {
       isIn[song] = true;
-      isOut[song] = false;
       seconds[song] = itsSeconds;
       props[song] = itsProps;
       half[song] = itsHalf;
@@ -726,8 +726,10 @@ public final class Songnations {
       this.songs = songs;
     }
 
-    // Behind Songs.add, which refuses no song: a land has one at most, so there is room.
     void insert(int song) {
+      if (count >= LANDS) {
+        return;
+      }
       boolean isFirstHalf = songs.half[song] == 0;
       int place = isFirstHalf ? ofFirstHalf : count;
       for (int i = count; i > place; i--) {

@@ -103,7 +103,10 @@ public final class ComparedRuns {
       } else {
         callOfPhase(y.many(1));
       }
-      compareAll();
+      // In every second run several calls follow one another without a question.
+      if (run % 2 == 0 || chance(30)) {
+        compareAll();
+      }
     }
   }
 
@@ -251,6 +254,7 @@ public final class ComparedRuns {
   }
 
   private void compareAll() {
+    firstQuestion();
     if (x.digest() != y.digest()) {
       compareEach();
     }
@@ -258,6 +262,20 @@ public final class ComparedRuns {
     same("meanTotal()", () -> x.meanTotal(), () -> y.meanTotal());
     compareOne();
     note();
+  }
+
+  /** Each question must be right as the first one behind a change too. */
+  private void firstQuestion() {
+    int dice = below(4);
+    if (dice == 0) {
+      same("nextRead()", () -> x.nextRead(), () -> y.nextRead());
+    } else if (dice == 1) {
+      same("isOpen()", () -> x.isOpen(), () -> y.isOpen());
+    } else if (dice == 2) {
+      same("bestMove()", () -> x.bestMove(), () -> y.bestMove());
+    } else {
+      compareOne();
+    }
   }
 
   /** One question more each time, with inputs that can be wrong. */
