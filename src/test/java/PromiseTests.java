@@ -17,6 +17,7 @@ public final class PromiseTests {
     promise8Orders();
     promise9();
     promise10();
+    promise10AtOnce();
     promise11();
     promise12();
     promise13();
@@ -462,6 +463,38 @@ public final class PromiseTests {
     readAll(y);
     y.end();
     CHECK.badState("in the phase 3", () -> y.disqualify(0));
+  }
+
+  /** Points of now are read right behind a disqualifying, with nothing asked between. */
+  private static void promise10AtOnce() {
+    Songnations x = four();
+    same(x, 3, 2, 5);
+    x.call(0, 0, 1, 2);
+    x.call(0, 1, 3, 1);
+    x.close();
+    x.disqualify(2);
+    CHECK.due("(2 1 0) without 2", 1, () -> x.read(3));
+    CHECK.due("the board of 0", 10, () -> x.ofSong(0, 9));
+    x.read(0);
+    x.read(1);
+    x.read(2);
+    x.disqualify(1);
+    CHECK.due("3 is first by calls without 1", 3012, () -> x.readCalls());
+    Songnations y = four();
+    same(y, 3, 2, 5);
+    y.close();
+    y.read(3);
+    y.disqualify(2);
+    CHECK.due("1 from 10 to 12, 0 from 8 to 10", 4, () -> y.correct(3));
+    CHECK.due("the board of 2 is empty", 0, () -> y.ofSong(2, 9));
+    y.read(0);
+    y.read(1);
+    y.read(2);
+    y.readCalls();
+    y.readCalls();
+    y.readCalls();
+    y.disqualify(1);
+    CHECK.due("0 wins without 1", 0, () -> y.end());
   }
 
   private static void promise11() {
@@ -1038,15 +1071,6 @@ public final class PromiseTests {
     x.call(3, 0, 1, 5);
     x.call(3, 5, 2, 3);
     points(x, 3, false, 10, 12, 8, 0);
-    // Back to the jury, and forth again, with nothing asked between the changes.
-    same(x, 3, 2, 5);
-    x.disqualify(1);
-    x.close();
-    CHECK.due("read behind a change", 2, () -> x.read(3));
-    x.disqualify(2);
-    CHECK.due("corrected behind a change", 2, () -> x.correct(3));
-    CHECK.due("the board of 2 is empty", 0, () -> x.ofSong(2, 9));
-    points(x, 3, false, 12, 0, 0, 0);
   }
 
   private static void promise21() {
