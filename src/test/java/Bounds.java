@@ -34,19 +34,25 @@ final class Bounds {
     check.due(what, want, call);
   }
 
-  /** Lines "call = answer", one behind the other on one contest. What is refused changes nothing. */
+  /**
+   * Lines "call = answer", one behind the other: on a contest of which nothing else is asked, and on
+   * one of which all is asked ahead of each line. What is refused changes nothing.
+   */
   void row(Scene scene, String... lines) {
-    Songnations x = scene.made();
+    Songnations silent = scene.made();
+    Songnations asked = scene.made();
     for (String line : lines) {
       int sign = line.lastIndexOf(" = ");
       String call = line.substring(0, sign);
       String want = nameOf(line.substring(sign + 3));
-      long before = x.digest();
-      check.due(call + " behind " + scene, want, () -> Scene.tell(x, call));
+      check.due(call + " behind " + scene, want, () -> Scene.tell(silent, call));
+      long before = asked.digest();
+      check.due(call + " behind digest(), " + scene, want, () -> Scene.tell(asked, call));
       if (want.startsWith("throws.")) {
-        check.due("digest() behind " + call + ", " + scene, before, () -> x.digest());
+        check.due("digest() behind " + call + ", " + scene, before, () -> asked.digest());
       }
     }
+    check.due("digest() in the end, " + scene, asked.digest(), () -> silent.digest());
     checkLength(scene, 3 * lines.length);
   }
 

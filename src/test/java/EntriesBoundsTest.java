@@ -84,9 +84,9 @@ public final class EntriesBoundsTest {
 
   /** 8 LANDS are let, a ninth one is not. */
   private static void promise2Full() {
-    BOUNDS.row(Scenes.NEW, "land 0 0 = 0", "land 1 1 = 1", "land 2 2 = 2", "land 3 3 = 3",
-        "land 0 4 = 4", "land 1 5 = 5", "land 2 6 = 6", "land 3 7 = 7", "land 0 8 = STATE",
-        "many 2 = 8", "ofLand 7 0 = 3", "ofLand 7 1 = 7", "ofLand 8 0 = INDEX");
+    BOUNDS.row(Scenes.NEW, "land 0 0 = 0", "land 1 1 = 1", "many 6 = 2", "land 2 2 = 2",
+        "land 3 3 = 3", "land 0 4 = 4", "land 1 5 = 5", "land 2 6 = 6", "land 3 7 = 7",
+        "land 0 8 = STATE", "many 2 = 8", "many 6 = 8", "ofLand 7 0 = 3", "ofLand 7 1 = 7", "ofLand 8 0 = INDEX");
     Scene eight = Scenes.lands(8);
     refused(eight, "land 0 0", STATE);
     refused(eight, "land 4 0", ARGUMENT);
@@ -285,6 +285,8 @@ public final class EntriesBoundsTest {
     BOUNDS.row(eight, "withdraw 8 = INDEX", "withdraw 7 = 7", "at 6 = 6", "at 7 = INDEX",
         "withdraw 0 = 6", "at 0 = 1", "enter 0 100 1 0 = 0", "at 6 = 0", "enter 7 101 1 0 = 0",
         "at 7 = 7");
+    BOUNDS.row(eight, "ranked 7 = 7", "withdraw 0 = 7", "ranked 0 = 1", "ranked 6 = 7",
+        "ranked 7 = INDEX", "ofSong 7 8 = 6", "without 0 = 1");
   }
 
   // ---- promise 6: move

@@ -38,6 +38,7 @@ public final class QuestionsBoundsTest {
     promise28Numbers();
     promise28First();
     promise28Gaps();
+    promise28Others();
     promise28Full();
     promise29None();
     promise29Least();
@@ -306,6 +307,10 @@ public final class QuestionsBoundsTest {
     // Behind land 4 it is 12 10 8 7. (2 0 1 3) makes 22 18 20 14, (3 1 2 0) makes 19 20 16 19.
     BOUNDS.row(threeJuries(12, 21), "nextRead = 4", "read 4 = 0", "nextRead = 6");
     BOUNDS.row(threeJuries(21, 12), "nextRead = 4", "read 4 = 0", "nextRead = 5");
+    // (1 2 3 0) makes 19 22 18 15, (1 2 0 3) makes 20 22 18 14.
+    BOUNDS.row(threeJuries(9, 8), "read 4 = 0", "nextRead = 6");
+    // (0 1 2 3) makes 24 20 16 14, (3 0 1 2) makes 22 18 15 19.
+    BOUNDS.row(threeJuries(0, 18), "read 4 = 0", "nextRead = 6");
     BOUNDS.row(threeJuries(21, 21), "read 4 = 0", "nextRead = 5", "fail 5 = 1", "nextRead = 6");
     BOUNDS.row(threeJuries(12, 12), "read 4 = 0", "nextRead = 5", "read 5 = 2", "nextRead = 6",
         "read 6 = 2", "nextRead = -1");
@@ -389,6 +394,16 @@ public final class QuestionsBoundsTest {
         "needCalls 3 0 = 4", "needCalls 3 2 = 1", "needCalls 3 1 = 0");
     BOUNDS.row(Scenes.voting(4).then("call 3 0 1 3; call 3 3 2 3"), "needCalls 3 0 = 3",
         "needCalls 3 2 = 1", "needCalls 3 1 = 0");
+  }
+
+  /** The first and the last SONG that there can be are among the others. */
+  private static void promise28Others() {
+    BOUNDS.row(Scenes.voting(8).then("call 3 0 0 5"), "needCalls 3 0 = 0", "needCalls 3 1 = 6",
+        "needCalls 3 7 = 6", "needCalls 3 3 = -1");
+    BOUNDS.row(Scenes.voting(8).then("call 3 0 7 5"), "needCalls 3 7 = 0", "needCalls 3 0 = 5",
+        "needCalls 3 6 = 5", "disqualify 7 = 7", "needCalls 3 6 = 1", "needCalls 3 7 = -1");
+    // Its own song is none of them.
+    BOUNDS.row(Scenes.voting(2).then("call 1 0 0 5"), "needCalls 0 1 = 1", "needCalls 1 0 = 0");
   }
 
   private static void promise28Full() {

@@ -122,6 +122,15 @@ public final class ReadingBoundsTest {
         "readCalls = 1012", "readCalls = 2000", "many 8 = 3", "readCalls = STATE");
     BOUNDS.row(Scenes.voting(3).then("close; " + Scenes.reads(3)), "readCalls = 2000",
         "readCalls = 1000", "readCalls = 0", "readCalls = STATE");
+    // Four songs of lands that give nothing; land 4 (0 3 1 2), so 12 8 7 10, by few calls too.
+    Scene four = Scenes.songs(Scene.of("land 3 0; ".repeat(4) + "land 0 0; land 1 0"), 0, 1, 2, 3)
+        .then("start; ");
+    BOUNDS.row(four.then(Scenes.jurors(4, 2, 4) + "close; " + Scenes.reads(6)), "ofSong 2 9 = 7",
+        "readCalls = 2007", "readCalls = 1008", "readCalls = 3010", "readCalls = 12", "end = 0");
+    // Land 4 (0 1 2 3) and land 5 (1 0 3 2): 22 22 15 15.
+    BOUNDS.row(four.then(Scenes.jurors(4, 2, 0) + Scenes.jurors(5, 2, 7) + "close; "
+        + Scenes.reads(6)), "ofSong 1 9 = 22", "ofSong 3 9 = 15", "readCalls = 3015",
+        "readCalls = 2015", "readCalls = 1022", "readCalls = 22");
     StringBuilder calls = new StringBuilder();
     for (int land = 0; land < 7; land++) {
       calls.append("call ").append(land).append(" 0 7 1; ");

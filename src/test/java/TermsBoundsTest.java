@@ -13,6 +13,7 @@ public final class TermsBoundsTest {
     sumOfNothing();
     outlierBallots();
     outlierDistances();
+    outlierOfItsLand();
     outlierSmallest();
     outlierOnce();
     pairBallots();
@@ -95,6 +96,15 @@ public final class TermsBoundsTest {
         "ofLand 4 3 = 2");
     BOUNDS.row(scene, "disqualify 1 = 3", "gives 4 3 true = 12", "gives 4 2 true = 10",
         "gives 4 0 true = 8");
+    // (3 2 0 1) and (1 0 2 3): 18 19 18 19; without 3 they are (2 0 1) and (1 0 2), 20 each.
+    Scene last = Scenes.songs(Scenes.lands(8), 0, 1, 2, 3).then("start; jury 7 3 22; jury 7 4 6");
+    BOUNDS.row(last, "gives 7 1 true = 12", "gives 7 3 true = 10", "gives 7 0 true = 8",
+        "gives 7 2 true = 7", "disqualify 3 = 3", "gives 7 0 true = 12", "gives 7 1 true = 10",
+        "gives 7 2 true = 8");
+    // The same of land 0 with 1 2 3 4: (4 3 1 2) and (2 1 3 4).
+    Scene first = Scenes.songs(Scenes.lands(8), 0, 1, 2, 3, 4).then("start; jury 0 0 22; jury 0 1 6");
+    BOUNDS.row(first, "gives 0 2 true = 12", "gives 0 4 true = 10", "disqualify 4 = 4",
+        "gives 0 1 true = 12", "gives 0 2 true = 10", "gives 0 3 true = 8");
   }
 
   // ---- VOID
@@ -169,6 +179,14 @@ public final class TermsBoundsTest {
     outlier(7, 4473, 4);
   }
 
+  /** By the order of the LAND itself: two lands vote against one another. */
+  private static void outlierOfItsLand() {
+    // Land 6: (4 3 2 1 0) three times and (4 0 2 1 3), so 4 3 2 0 1, and a distance of 6.
+    Scene scene = Scenes.songs(Scenes.lands(7), 0, 1, 2, 3, 4).then("start; " + Scenes.jurors(5, 3, 0)
+        + Scenes.jurors(6, 3, 119) + "jury 6 3 98");
+    BOUNDS.row(scene, "ofLand 5 4 = -1", "ofLand 6 4 = -1", "gives 6 0 true = 7", "gives 6 1 true = 6");
+  }
+
   /** Of several the smallest JUROR. */
   private static void outlierSmallest() {
     Scene scene = voter(5).then(Scenes.jurors(5, 3, 0));
@@ -206,6 +224,9 @@ public final class TermsBoundsTest {
     // 0 is first on two ballots of three, and by the order.
     BOUNDS.row(audit(4).then(Scenes.jurors(0, 5, 0) + Scenes.jurors(1, 2, 0) + "jury 1 2 2"),
         "gives 1 0 true = 12", "many 6 = 2", "jury 1 3 1 = 0", "many 6 = 4");
+    // The same with (2 1 3) twice and (1 2 3), of land 0.
+    BOUNDS.row(audit(4).then(Scenes.jurors(2, 5, 0) + Scenes.jurors(0, 2, 2) + "jury 0 2 0"),
+        "gives 0 2 true = 12", "many 6 = 2", "jury 0 3 3 = 2", "many 6 = 4");
   }
 
   /** By its order: 3 ballots have 0 first, but 2 has the greater sum, 54 to 50. */
@@ -365,6 +386,8 @@ public final class TermsBoundsTest {
   private static void rankedByLands() {
     BOUNDS.row(Ties.BY_LANDS, "ofSong 0 7 = 24", "ofSong 1 7 = 24", "ofSong 0 6 = 24",
         "ofSong 1 6 = 24", "ofSong 2 7 = 22", "at 0 = 1", "ranked 0 = 0", "ranked 1 = 1");
+    BOUNDS.row(Ties.BY_ONE_LAND, "ofSong 0 7 = 60", "ofSong 1 7 = 60", "ofSong 0 6 = 60",
+        "ofSong 1 6 = 60", "at 0 = 1", "ranked 0 = 0", "ranked 1 = 1", "ranked 2 = 2");
   }
 
   private static void rankedByTwelves() {

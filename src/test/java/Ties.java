@@ -30,6 +30,11 @@ final class Ties {
       1, 0, 2, 3, 4).then("start; " + third(1, 2, 3, 0) + third(5, 3, 4, 0) + third(6, 4, 2, 0)
           + "call 0 0 1 1; call 7 0 1 1");
 
+  /** 10 of six lands of 0, 12 of five lands of 1, which is ahead. */
+  static final Scene BY_ONE_LAND = Scenes.songs(Scene.of("land 0 0; ".repeat(8) + NO_THRESHOLD), 1, 0, 2)
+      .then("start; " + once(1, 2, 2, 0) + once(3, 1, 1, 0) + once(4, 1, 1, 0) + once(5, 1, 1, 0)
+          + once(6, 1, 1, 0) + once(7, 1, 1, 0));
+
   /** 12 + 8 of 3, 10 + 10 of 0, which is three places ahead. Land 6 gave nothing. */
   static final Scene BY_TWELVES = Scenes.songs(Scene.of("land 0 0; ".repeat(7) + NO_THRESHOLD),
       0, 1, 2, 3).then("start; call 4 0 3 2; call 4 0 0 1; " + third(5, 1, 0, 3));

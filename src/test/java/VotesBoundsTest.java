@@ -193,6 +193,18 @@ public final class VotesBoundsTest {
     BOUNDS.row(Scenes.VOTES.then("call 3 0 1 8; close; " + Scenes.reads(4)
         + "readCalls; readCalls; readCalls; end; next; enter 0 100 1 0; enter 1 100 1 0; start"),
         "call 3 0 0 99 = 10", "call 3 0 1 1 = 0");
+    promise9NextYear();
+  }
+
+  /** The first and the last CALLERS of the first and the last LAND, with all their calls. */
+  private static void promise9NextYear() {
+    String calls = "start; call 0 0 1 10; call 0 9 2 10; call 7 0 1 10; call 7 9 2 10; close; ";
+    BOUNDS.row(Scenes.songs(Scenes.lands(8).then("rules 180 6 10 0 false"), 1, 2)
+        .then(calls + Scenes.reads(8) + "readCalls; readCalls; end; next; enter 1 100 1 0;"
+            + "enter 2 100 1 0; start"),
+        "ofLand 0 6 = 0", "ofLand 7 6 = 0", "gives 0 1 false = 0", "call 0 0 1 99 = 10",
+        "ofLand 0 6 = 10", "call 0 9 2 99 = 10", "ofLand 0 6 = 20", "call 7 0 1 99 = 10",
+        "ofLand 7 6 = 10", "call 7 9 2 99 = 10", "ofLand 7 6 = 20", "call 7 9 1 1 = 0");
   }
 
   /** All 10 CALLERS of a LAND with all their calls, two of them for each of five songs. */
