@@ -311,6 +311,8 @@ public final class QuestionsBoundsTest {
     BOUNDS.row(threeJuries(9, 8), "read 4 = 0", "nextRead = 6");
     // (0 1 2 3) makes 24 20 16 14, (3 0 1 2) makes 22 18 15 19.
     BOUNDS.row(threeJuries(0, 18), "read 4 = 0", "nextRead = 6");
+    // Without 0, (2 3 1) makes 18 20 17 and (2 1 3) makes 20 20 15 of 1, 2, 3.
+    BOUNDS.row(threeJuries(3, 12).then("read 4"), "disqualify 0 = 3", "nextRead = 6");
     BOUNDS.row(threeJuries(21, 21), "read 4 = 0", "nextRead = 5", "fail 5 = 1", "nextRead = 6");
     BOUNDS.row(threeJuries(12, 12), "read 4 = 0", "nextRead = 5", "read 5 = 2", "nextRead = 6",
         "read 6 = 2", "nextRead = -1");
@@ -352,10 +354,10 @@ public final class QuestionsBoundsTest {
         "without 1 = 1", "without 2 = 2", "move 2 0 = 0", "without 0 = 2", "move 2 1 = 0",
         "without 0 = 2", "move 1 0 = 0", "without 0 = 1");
     // The ties are those of the others alone, by all rules of the ranking.
-    BOUNDS.row(Ties.BY_CALL_POINTS.then("call 4 0 0 1"), "ranked 0 = 0", "without 4 = 1");
-    BOUNDS.row(Ties.BY_LANDS.then("call 3 0 1 1"), "ranked 0 = 1", "without 3 = 0");
-    BOUNDS.row(Ties.BY_TWELVES.then("call 6 0 1 1"), "ranked 0 = 1", "without 6 = 3");
-    BOUNDS.row(Ties.BY_ORDER.then("call 3 0 1 1"), "ranked 0 = 1", "without 3 = 2");
+    BOUNDS.row(Ties.BY_CALL_POINTS.then("call 4 0 0 1"), "without 4 = 1", "ranked 0 = 0");
+    BOUNDS.row(Ties.BY_LANDS.then("call 3 0 1 1"), "without 3 = 0", "ranked 0 = 1");
+    BOUNDS.row(Ties.BY_TWELVES.then("call 6 0 1 1"), "without 6 = 3", "ranked 0 = 1");
+    BOUNDS.row(Ties.BY_ORDER.then("call 3 0 1 1"), "without 3 = 2", "ranked 0 = 1");
   }
 
   // ---- promise 28: needCalls

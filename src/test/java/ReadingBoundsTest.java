@@ -145,6 +145,10 @@ public final class ReadingBoundsTest {
     // 1 has 12 on the board, as land 0 gives it 12 of now; its call points of now are read.
     BOUNDS.row(Scenes.ALL_LANDS_READ.then("readCalls; disqualify 0"), "readCalls = 1012",
         "readCalls = 2000", "readCalls = STATE", "many 8 = 3");
+    // Call points of now: 12 10 8 of 0, 1, 2, and 12 10 without 0.
+    BOUNDS.row(Scenes.voting(4).then("call 3 0 0 3; call 3 1 1 2; call 3 2 2 1; close; "
+        + Scenes.reads(4)), "disqualify 0 = 3", "readCalls = 3000", "readCalls = 2010",
+        "readCalls = 1012");
     refused(Scenes.ALL_LANDS_READ.then("readCalls; readCalls; disqualify 2"), "readCalls", STATE);
     refused(Scenes.ALL_LANDS_READ.then("readCalls; readCalls; readCalls; disqualify 2"), "readCalls",
         STATE);
@@ -168,8 +172,8 @@ public final class ReadingBoundsTest {
     BOUNDS.row(Scenes.READING, "correct 0 = 0", "many 11 = 1", "correct 1 = STATE", "many 11 = 1",
         "read 1 = 2", "correct 1 = 0", "many 11 = 2", "disqualify 2 = 2", "many 11 = 2");
     // Land 3: 12 10 8 for 0 1 2; without 0 it is 12 for 1, 10 for 2.
-    BOUNDS.row(Scenes.ALL_LANDS_READ.then("disqualify 0"), "ofSong 1 9 = 20", "correct 3 = 4",
-        "ofSong 1 9 = 22", "ofSong 2 9 = 34", "correct 3 = 0", "correct 2 = 0", "many 11 = 3");
+    BOUNDS.row(Scenes.ALL_LANDS_READ, "ofSong 1 9 = 20", "ofSong 2 9 = 32", "disqualify 0 = 2",
+        "correct 3 = 4", "ofSong 1 9 = 22", "ofSong 2 9 = 34", "correct 3 = 0", "correct 2 = 0", "many 11 = 3");
     BOUNDS.row(Scenes.ALL_READ, "correct 3 = 0", "end = 0", "correct 3 = STATE", "many 11 = 1",
         "next = 1", "many 11 = 1");
     // Calls on the board stay.
