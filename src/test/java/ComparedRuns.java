@@ -3,8 +3,13 @@
  * exception, and all that can be asked behind it, must be the same.
  */
 public final class ComparedRuns {
-  private static final int RUNS = 80;
-  private static final int CALLS = 500;
+  private static final int RUNS = 1200;
+
+  /** An object may be used for 512 calls; one step and what is asked behind it are up to 19. */
+  private static final int CALLS = 512 - 19;
+
+  /** In how many steps of a hundred all is compared. */
+  private static final int[] COMPARED = {100, 30, 10, 3};
 
   private final Check check;
   private final Songnations x = new Songnations();
@@ -13,6 +18,7 @@ public final class ComparedRuns {
   private final int wildness;
   private final int[] seen = new int[6];
   private long seed;
+  private int calls = 0;
   private boolean isSame = true;
 
   private ComparedRuns(Check check, int run) {
@@ -74,6 +80,7 @@ public final class ComparedRuns {
   private void same(String call, Check.Call ofX, Check.Call ofY) {
     String want = Check.answerOf(ofY);
     String got = Check.answerOf(ofX);
+    calls++;
     isSame &= got.equals(want);
     check.due("run " + run + ": " + call, want, () -> {
       if (got.startsWith("throws.")) {
@@ -97,16 +104,17 @@ public final class ComparedRuns {
   }
 
   private void play() {
-    for (int i = 0; i < CALLS && isSame; i++) {
+    while (calls < CALLS && isSame) {
       if (chance(wildness / 4)) {
         anyCall();
       } else {
         callOfPhase(y.many(1));
       }
-      // In every second run several calls follow one another without a question.
-      if (run % 2 == 0 || chance(30)) {
+      // In most runs several calls follow one another without a question.
+      if (chance(COMPARED[run / 4 % 4])) {
         compareAll();
       }
+      note();
     }
   }
 
@@ -255,13 +263,12 @@ public final class ComparedRuns {
 
   private void compareAll() {
     firstQuestion();
-    if (x.digest() != y.digest()) {
+    same("digest()", () -> x.digest(), () -> y.digest());
+    if (!isSame) {
       compareEach();
     }
-    same("digest()", () -> x.digest(), () -> y.digest());
     same("meanTotal()", () -> x.meanTotal(), () -> y.meanTotal());
     compareOne();
-    note();
   }
 
   /** Each question must be right as the first one behind a change too. */

@@ -1374,33 +1374,25 @@ public final class PromiseTests {
       want = want * 31 + number;
     }
     CHECK.due("digest() of a new one", want, () -> x.digest());
-    Songnations y = lands(0, 1, 2, 3, 0);
-    y.rules(180, 6, 2, 3, true);
-    CHECK.due("digest() with lands", folded(y), () -> y.digest());
-    y.enter(0, 101, 1, 3);
-    y.enter(1, 102, 2, 9);
-    y.enter(2, 103, 3, 8);
-    y.enter(4, 104, 4, 7);
-    CHECK.due("digest() with songs", folded(y), () -> y.digest());
-    y.start();
-    same(y, 3, 3, 7);
-    same(y, 0, 2, 4);
-    y.call(1, 0, 2, 2);
-    y.call(1, 1, 2, 2);
-    CHECK.due("digest() with votes", folded(y), () -> y.digest());
-    y.disqualify(0);
-    y.close();
-    y.read(3);
-    CHECK.due("digest() in the phase 2", folded(y), () -> y.digest());
-    for (int land : new int[] {0, 1, 2, 4}) {
-      y.read(land);
-    }
-    y.readCalls();
-    y.readCalls();
-    y.readCalls();
-    y.end();
-    CHECK.due("digest() in the phase 3", folded(y), () -> y.digest());
-    CHECK.due("digest() again", folded(y), () -> y.digest());
+    String lands = "land 0 999; land 1 999; land 2 999; land 3 999; land 0 999; rules 180 6 2 3 true; ";
+    String songs = "enter 0 101 1 3; enter 1 102 2 9; enter 2 103 3 8; enter 4 104 4 7; ";
+    String votes = "start; " + Scenes.jurors(3, 3, 7) + Scenes.jurors(0, 2, 4)
+        + "call 1 0 2 2; call 1 1 2 2; ";
+    String reading = "disqualify 0; close; read 3; ";
+    String end = "read 0; read 1; read 2; read 4; readCalls; readCalls; readCalls; end";
+    digestIs("with lands", Scene.of(lands));
+    digestIs("with songs", Scene.of(lands + songs));
+    digestIs("with votes", Scene.of(lands + songs + votes));
+    digestIs("in the phase 2", Scene.of(lands + songs + votes + reading));
+    digestIs("in the phase 3", Scene.of(lands + songs + votes + reading + end));
+  }
+
+  /** The numbers are asked of one contest, the checksum of another one, twice. */
+  private static void digestIs(String what, Scene scene) {
+    long want = folded(scene.made());
+    Songnations x = scene.made();
+    CHECK.due("digest() " + what, want, () -> x.digest());
+    CHECK.due("digest() again " + what, want, () -> x.digest());
   }
 
   private static long folded(Songnations x) {
