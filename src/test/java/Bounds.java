@@ -151,7 +151,8 @@ final class Bounds {
     return lines.toString();
   }
 
-  private static void checkLength(Scene scene, int more) {
+  /** What an object answers behind so many calls is free: no test may ask for more. */
+  static void checkLength(Scene scene, int more) {
     if (scene.size() + more + 12 > CALLS) {
       throw new AssertionError("more than " + CALLS + " calls: " + scene);
     }

@@ -29,6 +29,7 @@ public final class QuestionsBoundsTest {
     promise25Ties();
     promise25JustClosed();
     promise25Disqualified();
+    promise25Failed();
     promise25Phases();
     promise26Least();
     promise26CanBeRead();
@@ -43,6 +44,7 @@ public final class QuestionsBoundsTest {
     promise29None();
     promise29Least();
     promise29Phases();
+    promise29Disqualified();
     promise30();
     BOUNDS.finish();
   }
@@ -281,6 +283,18 @@ public final class QuestionsBoundsTest {
     BOUNDS.row(left, "disqualify 0 = 2", "ofSong 1 9 = 10", "isOpen = true");
   }
 
+  /** A LAND whose LINE FAILED was not READ: there are 12 to come from it, too. */
+  private static void promise25Failed() {
+    // Land 1 has 12 for 0 and nothing for 1, the lands 2 to 6 have 12 and 10: 72 and 50.
+    Scene scene = Scenes.songs(Scenes.lands(8).then("rules 180 6 10 0 false"), 0, 1).then("start; "
+        + Scenes.jurors(0, 2, 0) + Scenes.jurors(1, 2, 0) + Scenes.jurors(2, 2, 0) + "close; "
+        + "read 1; read 2; read 3; read 4; read 5; read 6");
+    BOUNDS.row(scene, "ofSong 0 9 = 72", "ofSong 1 9 = 50", "isOpen = true", "fail 0 = 1",
+        "isOpen = true", "read 7 = 0", "isOpen = false");
+    BOUNDS.row(scene, "fail 7 = 1", "isOpen = true", "read 0 = 1", "ofSong 1 9 = 62", "isOpen = true",
+        "read 7 = 0", "isOpen = false");
+  }
+
   private static void promise25Phases() {
     BOUNDS.row(Scenes.NEW, "isOpen = false");
     BOUNDS.row(Scenes.ENTRIES, "isOpen = false");
@@ -462,6 +476,15 @@ public final class QuestionsBoundsTest {
         "close = 8", "bestMove = -1");
     BOUNDS.row(scene.then("start; close; " + Scenes.reads(8) + "readCalls; readCalls; readCalls"),
         "bestMove = -1", "end = 0", "bestMove = -1", "next = 1", "bestMove = -1");
+  }
+
+  /** All that move() could do: a DISQUALIFIED SONG can be moved, too. */
+  private static void promise29Disqualified() {
+    BOUNDS.row(ofHalf0(9, 9, 0).then("start"), "disqualify 0 = 2", "bestMove = 2", "move 0 2 = 6",
+        "bestMove = -1");
+    // Only 7 to the place 1 makes it less.
+    BOUNDS.row(Scenes.lands(8).then("enter 0 100 1 9; enter 5 100 1 5; enter 6 101 1 2; enter 7 100 1 0;"
+        + "start"), "disqualify 7 = 3", "bestMove = 701", "move 7 1 = 4", "bestMove = -1");
   }
 
   // ---- promise 30: digest

@@ -10,6 +10,7 @@ public final class ReadingBoundsTest {
     promise12States();
     promise12Last();
     promise12Again();
+    promise12Stays();
     promise13States();
     promise13Answers();
     promise14States();
@@ -17,11 +18,14 @@ public final class ReadingBoundsTest {
     promise14Disqualified();
     promise15States();
     promise15Answers();
+    promise15Signs();
+    promise15Calls();
     promise16States();
     promise16Disqualified();
     promise16Prize();
     promise16Beds();
     promise16NoHost();
+    promise16Ranks();
     promise17States();
     promise17LastYear();
     promise17Anew();
@@ -74,6 +78,12 @@ public final class ReadingBoundsTest {
     // It was well again, as another one was READ.
     BOUNDS.row(Scenes.READING.then("fail 1; read 2"), "fail 1 = 1", "fail 3 = STATE", "read 1 = STATE",
         "read 3 = 0", "read 1 = 2");
+  }
+
+  /** Until another LAND is READ, whatever else comes. */
+  private static void promise12Stays() {
+    BOUNDS.row(Scenes.READING, "fail 1 = 2", "correct 0 = 0", "read 1 = STATE", "disqualify 2 = 2",
+        "read 1 = STATE", "fail 3 = 1", "read 1 = STATE", "read 2 = -1", "read 1 = -1", "read 3 = 0");
   }
 
   // ---- promise 13: read
@@ -181,6 +191,26 @@ public final class ReadingBoundsTest {
         "correct 3 = 0", "ofSong 0 9 = 36", "correct 0 = 2", "ofSong 1 9 = 22", "ofSong 0 9 = 36");
   }
 
+  /** The differences without their signs: 0 goes up, 1 goes down. */
+  private static void promise15Signs() {
+    // Land 4: (1 3 0 2) and (0 1 2 3), so 1 0 3 2 by 22 20 17 15; without 3 it is 0 1 2 by 22 22 16.
+    Scene scene = Scenes.songs(Scenes.lands(5), 0, 1, 2, 3).then("start; jury 4 0 10; jury 4 1 0; close");
+    BOUNDS.row(scene, "read 4 = 1", "correct 4 = 0", "disqualify 3 = 3", "ofSong 0 9 = 10",
+        "ofSong 1 9 = 12", "ofSong 2 9 = 7", "correct 4 = 5", "ofSong 0 9 = 12", "ofSong 1 9 = 10",
+        "ofSong 2 9 = 8", "ofSong 3 9 = 0", "correct 4 = 0", "many 11 = 3");
+    // Ahead of a correction that of 3 is no difference more: it is 0 on the board by then.
+    BOUNDS.row(scene.then("disqualify 3"), "read 4 = 0", "correct 4 = 0", "many 11 = 1");
+  }
+
+  /** JURY POINTS alone: the CALL POINTS of now are others, but those on the BOARD stay. */
+  private static void promise15Calls() {
+    // Land 3 calls for 0, 1, 2: 12 10 8; without 0 it is 12 10 for 1, 2.
+    Scene scene = Scenes.voting(4).then("call 3 0 0 3; call 3 1 1 2; call 3 2 2 1; close; "
+        + Scenes.reads(4) + "readCalls; readCalls");
+    BOUNDS.row(scene, "ofSong 2 9 = 8", "disqualify 0 = 3", "ofSong 2 6 = 10", "correct 3 = 0",
+        "correct 2 = 0", "ofSong 2 9 = 8", "readCalls = 1012", "end = 1", "ofSong 2 9 = 8");
+  }
+
   // ---- promise 16: end
 
   private static void promise16States() {
@@ -246,6 +276,21 @@ public final class ReadingBoundsTest {
     BOUNDS.row(twoAtEnd(79, 79), "end = 0", "many 9 = -1", "ofLand 0 2 = 140", "ofLand 1 2 = 90",
         "ofLand 2 2 = 100", "ofLand 0 10 = 0", "ofLand 2 10 = 0");
     BOUNDS.row(twoAtEnd(0, 0), "end = 0", "many 9 = -1", "next = 1", "many 9 = -1", "many 10 = 0");
+  }
+
+  /** By the RANKS of now, not by what is on the BOARD. */
+  private static void promise16Ranks() {
+    // Lands 4 and 5: (1 2 0 3), land 6: (0 1 2 3), land 7: (0 3 1 2). So 0 has 40, 1 has 42; without 2
+    // the lands 4 and 5 give 0 a 10, and it has 44.
+    Scene scene = Scenes.songs(Scene.of("land 3 999; ".repeat(4) + "land 0 0; land 0 0; land 0 0; land 0 0;"
+        + "rules 180 6 10 0 false"), 0, 1, 2, 3).then("start; " + Scenes.jurors(4, 2, 8)
+        + Scenes.jurors(5, 2, 8) + Scenes.jurors(6, 2, 0) + Scenes.jurors(7, 2, 4) + "close; "
+        + Scenes.reads(8) + "readCalls; readCalls; readCalls; readCalls");
+    BOUNDS.row(scene, "ofSong 0 9 = 40", "ofSong 1 9 = 42", "ranked 0 = 1", "end = 1", "many 9 = 1",
+        "ofLand 1 2 = 80", "ofLand 0 2 = 90");
+    BOUNDS.row(scene, "disqualify 2 = 3", "ofSong 0 9 = 40", "ofSong 1 9 = 42", "ofSong 0 7 = 44",
+        "ofSong 1 7 = 42", "ranked 0 = 0", "end = 0", "many 9 = 0", "ofLand 0 2 = 80", "ofLand 0 9 = 1",
+        "ofLand 1 2 = 90", "ofLand 1 9 = 0", "ofSong 1 9 = 42");
   }
 
   // ---- promise 17: next

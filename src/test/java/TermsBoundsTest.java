@@ -10,13 +10,17 @@ public final class TermsBoundsTest {
     ballotsOutOfOrder();
     voidByBallots();
     borrowedSums();
+    borrowedNotPoints();
     sumOfNothing();
     outlierBallots();
     outlierDistances();
+    outlierDisqualified();
     outlierOfItsLand();
     outlierSmallest();
     outlierOnce();
     pairBallots();
+    pairOutlier();
+    outlierOfPair();
     pairFirst();
     pairSides();
     pairsAtOnce();
@@ -135,6 +139,15 @@ public final class TermsBoundsTest {
         "gives 2 0 true = 10", "gives 0 1 true = 12", "gives 1 2 true = 12", "gives 1 0 true = 10");
   }
 
+  /** By the SUMS of the other JURIES, not by the points that they give. */
+  private static void borrowedNotPoints() {
+    // Land 3: (2 1 0) five times, land 4: (0 1 2) twice: 76, 70 and 64 of 2, 1, 0, but 20 points each.
+    Scene scene = Scenes.songs(Scene.of("land 3 0; land 3 0; land 3 0; land 0 0; land 0 0; land 0 0"),
+        0, 1, 2).then("start; " + Scenes.jurors(3, 5, 5) + Scenes.jurors(4, 2, 0));
+    BOUNDS.row(scene, "gives 5 2 true = 12", "gives 5 1 true = 10", "gives 5 0 true = 8",
+        "jury 5 0 0 = 0", "gives 5 2 true = 12", "jury 5 1 0 = 0", "gives 5 2 true = 8");
+  }
+
   /** Nothing with a SUM of 0, though there is a place and a WEIGHT for it. */
   private static void sumOfNothing() {
     Scene scene = Scenes.songs(Scenes.lands(4), 0, 1, 2, 3).then("start; " + Scenes.jurors(0, 2, 0));
@@ -177,6 +190,16 @@ public final class TermsBoundsTest {
     // 7: 10.5. (5 1 2 3 4 0 6) has 10, (6 1 2 3 4 5 0) has 12.
     outlier(7, 3752, -1);
     outlier(7, 4473, 4);
+  }
+
+  /** By the CANDIDATES of now: the half of 3 times their number changes, and so do the DISTANCES. */
+  private static void outlierDisqualified() {
+    // (4 1 2 3 0 5) has 8, not above 9; (4 1 2 3 0) has 8, above 7.5.
+    BOUNDS.row(voter(6).then(Scenes.jurors(6, 4, 0) + "jury 6 4 512"), "ofLand 6 4 = -1",
+        "disqualify 5 = 5", "ofLand 6 4 = 4", "close = 6", "ofLand 6 4 = 4");
+    // (3 2 1 0) has 8, above 6; (3 2 1) has 4, not above 4.5.
+    BOUNDS.row(voter(4).then(Scenes.jurors(4, 4, 0) + "jury 4 4 23"), "ofLand 4 4 = 4",
+        "disqualify 0 = 3", "ofLand 4 4 = -1", "close = 4", "disqualify 1 = 2", "ofLand 4 4 = -1");
   }
 
   /** By the order of the LAND itself: two lands vote against one another. */
@@ -227,6 +250,22 @@ public final class TermsBoundsTest {
     // The same with (2 1 3) twice and (1 2 3), of land 0.
     BOUNDS.row(audit(4).then(Scenes.jurors(2, 5, 0) + Scenes.jurors(0, 2, 2) + "jury 0 2 0"),
         "gives 0 2 true = 12", "many 6 = 2", "jury 0 3 3 = 2", "many 6 = 4");
+  }
+
+  /** A BALLOT that is an OUTLIER does not COUNT, though it has that SONG first. */
+  private static void pairOutlier() {
+    // Land 0: (1 2 3 4 5) twice and (1 5 4 3 2), with a distance of 8, above 7.5.
+    BOUNDS.row(audit(6).then(Scenes.jurors(0, 2, 0) + "jury 0 2 23; " + Scenes.jurors(1, 3, 0)),
+        "ofLand 0 4 = 2", "gives 0 1 true = 12", "many 6 = 4", "jury 0 3 0 = 1", "ofLand 0 4 = 2",
+        "many 6 = 6");
+  }
+
+  /** With 3 BALLOTS or more there is an OUTLIER, whether the JURY is VOID by a PAIR or not. */
+  private static void outlierOfPair() {
+    // Land 0: (1 2 3 4) three times and (4 3 2 1), with a distance of 8, above 6.
+    BOUNDS.row(audit(5).then(Scenes.jurors(0, 3, 0) + "jury 0 4 23; " + Scenes.jurors(1, 2, 0)),
+        "ofLand 0 4 = 4", "ofLand 0 5 = 0", "jury 1 2 0 = 0", "ofLand 0 5 = 1", "ofLand 0 4 = 4",
+        "ofLand 1 4 = -1", "close = 5", "ofLand 0 4 = 4", "ofLand 0 3 = 4");
   }
 
   /** By its order: 3 ballots have 0 first, but 2 has the greater sum, 54 to 50. */
